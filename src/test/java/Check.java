@@ -8,6 +8,10 @@ final class Check {
     private Check() {
     }
 
+    static int wrong() {
+        return wrong;
+    }
+
     static void due(String call, Object got, Object want) {
         asked++;
         if (!want.equals(got)) {
