@@ -24,7 +24,51 @@ public final class ModelTest {
                 break;
             }
         }
+        for (int i = 0; i < 4; i++) {
+            new ModelTest(seed - 1 - i).largeRun(i);
+        }
         Check.end("ModelTest");
+    }
+
+    /** Tables as large as they can be: six classes, eight attributes, 200 and 100 rows. */
+    private void largeRun(int sort) {
+        classes = 6;
+        attributes = 8;
+        span = sort == 0 ? 1000 : sort == 1 ? 30 : sort == 2 ? 4 : 200;
+        StringBuilder names = new StringBuilder("classes c0,c1,c2,c3,c4,c5;");
+        for (int k = 0; k < attributes; k++) {
+            values[k] = sort == 3 && k % 2 == 0 ? 0 : sort == 3 ? 1 + k : 0;
+            names.append('a').append(k).append(':');
+            for (int v = 0; v < values[k]; v++) {
+                names.append(v == 0 ? "v" : ",v").append(v);
+            }
+            names.append(values[k] == 0 ? "measured;" : ";");
+        }
+        give(names.toString());
+        ask("names()", bench::names, model::names);
+        for (int part = 0; part < 6; part++) {
+            int set = part < 4 ? 0 : 1;
+            StringBuilder rows = new StringBuilder();
+            for (int i = 0; i < 50; i++) {
+                rows.append(cells()).append(",c").append(sort == 2 ? part % 2 : draw(classes)).append(';');
+            }
+            give(rows.toString());
+            ask("rows(" + set + ")", () -> bench.rows(set), () -> model.rows(set));
+        }
+        look();
+        for (int m = 0; m < 6; m++) {
+            int mode = m % 3;
+            int least = m < 3 ? 1 : 4;
+            ask("grow(" + mode + ")", () -> bench.grow(mode, least, 60), () -> model.grow(mode, least, 60));
+            lookAtNodes();
+            ask("rules()", bench::rules, model::rules);
+            lookAtRules();
+            tryRows();
+            writeAndRead();
+            ask("prune()", bench::prune, model::prune);
+            writeAndRead();
+            ask("folds(" + mode + ")", () -> bench.folds(2, mode, 2, 8), () -> model.folds(2, mode, 2, 8));
+        }
     }
 
     private boolean run(int run) {
