@@ -59,7 +59,6 @@ public final class GainTrees {
         holdout = new Table(MOST_HOLDOUT);
         single = new Table(1);
         scale = new Scale();
-        grower = new Grower(scale);
         first = new Split();
         second = new Split();
         made = new Rules();
@@ -67,6 +66,7 @@ public final class GainTrees {
         spareNames = new Names();
         grown = new Tree();
         spareTree = new Tree();
+        grower = new Grower(scale, training, known, grown);
     }
 
     public int feed(int a, int b, int c, int d, int e) {
@@ -156,7 +156,7 @@ public final class GainTrees {
         needManner(mode, least, depth);
         needRows(1);
         grower.aim(mode, least, depth);
-        grower.gather(training, 1, NONE);
+        grower.gather(1, NONE);
         grower.build(known, grown);
         made.drop();
         return grown.nodes;
@@ -208,7 +208,7 @@ public final class GainTrees {
         needAttribute(b);
         fillSplit(first, node, a, cutA);
         fillSplit(second, node, b, cutB);
-        return scale.orderOfGains(first, second);
+        return scale.order(MODE_GAIN, first, second);
     }
 
     public int gain(int node, int attribute, int cut, int what) throws IllegalStateException, NoSuchElementException {
@@ -266,7 +266,7 @@ public final class GainTrees {
         grower.aim(mode, least, depth);
         int wrong = 0;
         for (int f = 0; f < k; f++) {
-            grower.gather(training, k, f);
+            grower.gather(k, f);
             grower.build(known, spareTree);
             for (int i = f; i < training.size; i += k) {
                 if (spareTree.decisionOn(training, i) != training.classOf(i)) {
@@ -671,26 +671,21 @@ public final class GainTrees {
                 }
                 to++;
             }
-            kind = to - start > MOST_DIGITS ? NO_TOKEN : NUMBER;
+            boolean good = to - start <= MOST_DIGITS;
             number = number * 1000;
             if (tape.at(to) == '.' && isDigit(tape.at(to + 1))) {
-                stepBehind();
+                to++;
+                start = to;
+                int worth = 100;
+                while (to < tape.kept && isDigit(tape.at(to))) {
+                    number += worth * (tape.at(to) - '0');
+                    worth /= 10;
+                    to++;
+                }
+                good = good && to - start <= MOST_BEHIND;
             }
             number = below ? -number : number;
-        }
-
-        private void stepBehind() {
-            to++;
-            int start = to;
-            int worth = 100;
-            while (to < tape.kept && isDigit(tape.at(to))) {
-                number += worth * (tape.at(to) - '0');
-                worth /= 10;
-                to++;
-            }
-            if (to - start > MOST_BEHIND) {
-                kind = NO_TOKEN;
-            }
+            kind = good ? NUMBER : NO_TOKEN;
         }
 
         private void stepSign(int b) {
@@ -844,7 +839,8 @@ public final class GainTrees {
         }
 
         private boolean readCell(Names names, Table table, int i, int k) {
-            boolean good = names.valuesOf(k) > 0 ? seekValue(names, k) : checkNumber();
+            int values = names.valuesOf(k);
+            boolean good = values > 0 ? seekWord(names, Names.valueSlot(k, 0), values) : checkNumber();
             if (!good) {
                 return false;
             }
@@ -865,10 +861,6 @@ public final class GainTrees {
             }
             value = (int) number;
             return true;
-        }
-
-        private boolean seekValue(Names names, int k) {
-            return seekWord(names, Names.valueSlot(k, 0), names.valuesOf(k));
         }
 
         private boolean seekWord(Names names, int slot, int many) {
@@ -893,11 +885,13 @@ public final class GainTrees {
             under = NONE;
             child = 0;
             for (int i = 0; i < MOST_NODES; i++) {
-                boolean good = isWord("by") ? readFork(names, into) : readLeaf(names, into);
-                if (!good) {
+                if (isWord("by")) {
+                    if (!readFork(names, into)) {
+                        return false;
+                    }
+                } else if (!readLeaf(names, into) || !closeForks(names, into)) {
                     return false;
-                }
-                if (under == NONE) {
+                } else if (under == NONE) {
                     return kind == END || fail(SYNTAX);
                 }
             }
@@ -913,7 +907,7 @@ public final class GainTrees {
                 return fail(ROOM);
             }
             into.result[at] = value;
-            return closeForks(names, into, at);
+            return true;
         }
 
         private boolean readFork(Names names, Tree into) {
@@ -925,31 +919,23 @@ public final class GainTrees {
                 return false;
             }
             int k = value;
+            int values = names.valuesOf(k);
+            step();
+            if (!takeSign(values == 0 ? '<' : '{') || values == 0 && !checkNumber()) {
+                return false;
+            }
             int at = into.add(under, child);
             if (at == NONE) {
                 return fail(ROOM);
             }
-            step();
+            into.fork(at, k, values, value);
             under = at;
             child = 0;
-            return names.valuesOf(k) > 0 ? openByValues(names, into, k) : openByCut(into, k);
-        }
-
-        private boolean openByCut(Tree into, int k) {
-            if (!takeSign('<') || !checkNumber()) {
-                return false;
+            if (values > 0) {
+                return readLabel(names, k, 0);
             }
-            into.fork(under, k, 0, value);
             step();
             return true;
-        }
-
-        private boolean openByValues(Names names, Tree into, int k) {
-            if (!takeSign('{')) {
-                return false;
-            }
-            into.fork(under, k, names.valuesOf(k), 0);
-            return readLabel(names, k, 0);
         }
 
         private boolean readLabel(Names names, int k, int v) {
@@ -960,9 +946,9 @@ public final class GainTrees {
             return takeSign(':');
         }
 
-        /** From a finished node up to the fork whose next child must come; the tokens between are read. */
-        private boolean closeForks(Names names, Tree into, int finished) {
-            int at = finished;
+        /** From the leaf just read up to the fork whose next child must come; the tokens between are read. */
+        private boolean closeForks(Names names, Tree into) {
+            int at = Math.max(into.nodes - 1, 0);
             for (int level = 0; level <= MOST_DEPTH; level++) {
                 under = into.parent[at];
                 if (under == NONE) {
@@ -1414,10 +1400,14 @@ public final class GainTrees {
         }
 
         /**
-         * 1, 0, -1, as the gain of the first of two splits of the same rows is above, the same as, below the other.
-         * L is less than 2 below the logarithm times 2^16, so each weight is less than twice its rows beside the truth.
+         * 1, 0, -1, as the first of two splits of the same rows is better, as good, worse in a mode that does not look
+         * at ratios. L is less than 2 below the logarithm times 2^16, so the weight of a split is less than twice its
+         * rows beside the truth.
          */
-        int orderOfGains(Split a, Split b) {
+        int order(int mode, Split a, Split b) {
+            if (mode == MODE_SQUARES) {
+                return orderOfSquares(a, b);
+            }
             long doubt = 2L * a.total + 2L * b.total;
             if (b.weight - a.weight > doubt) {
                 return 1;
@@ -1446,13 +1436,13 @@ public final class GainTrees {
             return sign() >= 0;
         }
 
-        /** As orderOfGains, of what both have by L: gain through width. */
+        /** Of what both have by L: gain through width. */
         int orderOfRatios(Split a, Split b) {
             return Long.compare(gainOf(a) * widthOf(b), gainOf(b) * widthOf(a));
         }
 
-        /** As orderOfGains, of the sums of squares: whole parts first, then the fractions turned upside down. */
-        int orderOfSquares(Split a, Split b) {
+        /** Whole parts first, then what is left, turned upside down: so no product can leave the room of a long. */
+        private static int orderOfSquares(Split a, Split b) {
             long top = a.squares;
             long bottom = a.divisor;
             long otherTop = b.squares;
@@ -1508,10 +1498,6 @@ public final class GainTrees {
             if (sum > doubt || -sum > doubt) {
                 return sum > 0 ? 1 : -1;
             }
-            return signOfProducts();
-        }
-
-        private int signOfProducts() {
             above.begin();
             below.begin();
             for (int x = MOST_TRAINING; x >= 2; x--) {
@@ -1601,12 +1587,15 @@ public final class GainTrees {
         private int mode;
         private int least;
         private int depth;
-        private Table table;
+        private final Table table;
         private Names names;
         private Tree tree;
 
-        Grower(Scale scale) {
+        Grower(Scale scale, Table table, Names names, Tree tree) {
             this.scale = scale;
+            this.table = table;
+            this.names = names;
+            this.tree = tree;
             for (int k = 0; k < MOST_ATTRIBUTES; k++) {
                 best[k] = new Split();
             }
@@ -1619,10 +1608,9 @@ public final class GainTrees {
         }
 
         /** Takes those rows whose number modulo k is not f. */
-        void gather(Table from, int k, int f) {
-            table = from;
+        void gather(int k, int f) {
             used = 0;
-            for (int i = 0; i < from.size && i < MOST_TRAINING; i++) {
+            for (int i = 0; i < table.size && i < MOST_TRAINING; i++) {
                 mark[i] = NONE;
                 if (k > 0 && i % k != f) {
                     rows[used] = i;
@@ -1749,21 +1737,17 @@ public final class GainTrees {
             } else {
                 scale.weigh(trial);
             }
-            if (!own.stands || order(trial, own) > 0) {
+            if (!own.stands || scale.order(mode, trial, own) > 0) {
                 own.copy(trial);
                 own.stands = true;
             }
-        }
-
-        private int order(Split a, Split b) {
-            return mode == MODE_SQUARES ? scale.orderOfSquares(a, b) : scale.orderOfGains(a, b);
         }
 
         private Split chooseBest() {
             Split chosen = null;
             for (int k = 0; k < MOST_ATTRIBUTES; k++) {
                 Split own = best[k];
-                if (own != null && own.stands && (chosen == null || order(own, chosen) > 0)) {
+                if (own != null && own.stands && (chosen == null || scale.order(mode, own, chosen) > 0)) {
                     chosen = own;
                 }
             }

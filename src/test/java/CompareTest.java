@@ -13,6 +13,7 @@ public final class CompareTest {
         belowTheFirstNode();
         asTrainingIsNow();
         equalAlthoughNotAlike();
+        equalOfTwoHundred();
         nearlyEqual();
         refusals();
         Check.end("CompareTest");
@@ -90,6 +91,24 @@ public final class CompareTest {
         Check.due("the same gain", x.compare(0, 0, 0, 1, 0), 0);
         Check.due("less", x.compare(0, 2, 0, 1, 0), -1);
         Check.due("more", x.compare(0, 1, 0, 2, 0), 1);
+    }
+
+    /** Halves in which the classes stand as in all rows gain nothing, as all rows on one side do. */
+    private static void equalOfTwoHundred() {
+        StringBuilder rows = new StringBuilder();
+        for (int i = 0; i < 200; i++) {
+            rows.append(i % 2 == 0 ? "1," : "2,").append(i % 4 < 2 ? "a;" : "b;");
+        }
+        GainTrees x = Check.bench("classes a,b;x:measured;", rows.toString());
+        Check.tape(x, "is a").tree();
+        Check.due("count(2)", x.count(2), 200);
+        Check.due("halves and all", x.compare(0, 0, 1000, 0, 2000), 0);
+        Check.due("all and halves", x.compare(0, 0, 0, 0, 1000), 0);
+        Check.tape(x, "").rows(0);
+        Check.due("clear", x.clear(0), 200);
+        Check.tape(x, rows.substring(0, 199 * 4) + "2,a;").rows(0);
+        Check.due("not quite", x.compare(0, 0, 1000, 0, 2000), 1);
+        Check.due("not quite", x.compare(0, 0, 2000, 0, 1000), -1);
     }
 
     /** Of 200 rows all splits are put in order by doubles; neighbours are compared as the model does it. */
