@@ -97,6 +97,10 @@ public final class ModelTest {
     }
 
     private int around(int low, int high) {
+        if (draw(60) == 0) {
+            int[] far = {Integer.MIN_VALUE, Integer.MAX_VALUE, Integer.MIN_VALUE + 5, Integer.MAX_VALUE - 5, 1 << 30, -1};
+            return far[draw(far.length)];
+        }
         return draw(15) == 0 ? low - 1 - draw(2) : draw(15) == 0 ? high + 1 + draw(2) : low + draw(high - low + 1);
     }
 
@@ -123,6 +127,13 @@ public final class ModelTest {
     private String spoil(String text, int seldom) {
         if (draw(seldom) != 0 || text.isEmpty()) {
             return text;
+        }
+        if (draw(12) == 0) {
+            StringBuilder bytes = new StringBuilder(text.substring(0, draw(text.length())));
+            for (int i = draw(40); i > 0 && bytes.length() < 4000; i--) {
+                bytes.append((char) draw(256));
+            }
+            return bytes.toString();
         }
         String signs = "az09_ ,:;{}<=.-A\n";
         int at = draw(text.length());
