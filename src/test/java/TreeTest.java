@@ -178,6 +178,11 @@ public final class TreeTest {
         Check.due("no rules then", x.count(5), 0);
         Check.due("no default then", x.count(6), -1);
         Check.throwsState("no rules", () -> x.errors(0, 1));
+        x.rules();
+        Check.due("a fault", Check.tape(x, "is perhaps").tree(), -1);
+        Check.due("the tree stays", x.count(4), 1);
+        Check.due("no rules then, with a fault too", x.count(5), 0);
+        Check.due("no default then", x.count(6), -1);
     }
 
     private static void refusals() {
