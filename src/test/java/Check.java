@@ -4,6 +4,8 @@ import java.util.concurrent.Callable;
 final class Check {
     private static int wrong;
     private static int asked;
+    private static int sentences;
+    private static String sentence = "";
 
     private Check() {
     }
@@ -12,11 +14,17 @@ final class Check {
         return wrong;
     }
 
+    /** Which sentence of the document is tried from here on. */
+    static void sentence(String where, String words) {
+        sentences++;
+        sentence = where + " \"" + words + "\": ";
+    }
+
     static void due(String call, Object got, Object want) {
         asked++;
         if (!want.equals(got)) {
             wrong++;
-            System.out.println(call + " answered " + got + ", due is " + want);
+            System.out.println(sentence + call + " answered " + got + ", due is " + want);
         }
     }
 
@@ -76,10 +84,62 @@ final class Check {
 
     static String result(GainTrees x) {
         StringBuilder text = new StringBuilder();
-        for (int i = 0; i < x.count(8); i++) {
+        int bytes = x.count(8);
+        for (int i = 0; i < bytes; i++) {
             text.append((char) x.letter(i));
         }
         return text.toString();
+    }
+
+    /** All that can be asked of an object without a change to it; the bytes of the tape cannot be. */
+    static String state(GainTrees x) {
+        StringBuilder all = new StringBuilder();
+        for (int what = 0; what < 18; what++) {
+            all.append(x.count(what)).append(what < 17 ? " " : "; fault ");
+        }
+        all.append(x.fault(0)).append(" at ").append(x.fault(1)).append("; result ").append(result(x));
+        int attributes = x.count(1);
+        for (int set = 0; set < 2; set++) {
+            for (int i = 0; i < x.count(2 + set); i++) {
+                all.append(i == 0 ? "; rows " : ", ");
+                for (int k = 0; k <= attributes; k++) {
+                    all.append(x.row(set, i, k)).append(' ');
+                }
+            }
+        }
+        return all.append(tree(x)).append(rules(x)).toString();
+    }
+
+    private static String tree(GainTrees x) {
+        StringBuilder all = new StringBuilder();
+        int nodes = x.count(4);
+        int classes = x.count(0);
+        for (int i = 0; i < nodes; i++) {
+            all.append(i == 0 ? "; nodes " : ", ");
+            for (int what = 0; what < 6; what++) {
+                all.append(x.node(i, what)).append(' ');
+            }
+            for (int c = 0; c < classes; c++) {
+                all.append(x.node(i, 20 + c)).append(' ');
+            }
+        }
+        return all.toString();
+    }
+
+    private static String rules(GainTrees x) {
+        StringBuilder all = new StringBuilder();
+        int rules = x.count(5);
+        for (int r = 0; r < rules; r++) {
+            all.append(r == 0 ? "; rules " : ", ");
+            for (int what = 0; what < 4; what++) {
+                all.append(x.rule(r, what)).append(' ');
+            }
+            for (int i = 0; i < x.rule(r, 1); i++) {
+                all.append("if ").append(x.condition(r, i, 0)).append(' ').append(x.condition(r, i, 1)).append(' ')
+                        .append(x.condition(r, i, 2)).append(' ');
+            }
+        }
+        return all.toString();
     }
 
     static String written(GainTrees x, int what) {
@@ -91,7 +151,8 @@ final class Check {
 
     /** Ends the test: with exit code 1 if an answer was not due. */
     static void end(String test) {
-        System.out.println(test + ": " + asked + " answers, " + wrong + " not as due");
+        String told = sentences == 0 ? ": " : ": " + sentences + " sentences, ";
+        System.out.println(test + told + asked + " answers, " + wrong + " not as due");
         if (wrong > 0 || asked == 0) {
             System.exit(1);
         }
