@@ -24,8 +24,13 @@ final class Check {
         asked++;
         if (!want.equals(got)) {
             wrong++;
-            System.out.println(sentence + call + " answered " + got + ", due is " + want);
+            System.out.println(sentence + brief(call) + " answered " + brief(got) + ", due is " + brief(want));
         }
+    }
+
+    private static String brief(Object told) {
+        String text = String.valueOf(told);
+        return text.length() > 1000 ? text.substring(0, 1000) + " .." : text;
     }
 
     /** What a call answers: a number (a boolean counts 1 or 0), or the name of what it throws. */

@@ -293,6 +293,17 @@ public final class EdgesOfCallsTest {
             Check.due("its state", withoutFault(Check.state(x)), before);
             Check.due("the names of before", Check.tape(x, "3,q").decide(1), 2);
         }
+        GainTrees y = new GainTrees();
+        Check.due("names()", Check.tape(y, "classes a,b,c;u:p,q;v:p,q;w:p,q,r;x:p").names(), -1);
+        Check.due("none of a text with a FAULT", Check.tape(y, "classes a,b;x:measured;").names(), 1);
+        Check.due("count(0)", y.count(0), 2);
+        Check.due("count(10)", y.count(10), 0);
+        for (int i = 0; i < 3; i++) {
+            Check.due("names()", Check.tape(y, "classes a,b,c;x:p,q;y:p,q,r;").names(), 2);
+            Check.due("names()", Check.tape(y, "classes a,b;x:measured;").names(), 1);
+            Check.due("none of those before", y.count(10), 0);
+            Check.due("none of those before", y.count(11), -1);
+        }
         GainTrees x = new GainTrees();
         Check.due("names()", Check.tape(x, "classes a,b;x:p,q").names(), -1);
         Check.throwsState("there are no names as before", () -> x.rows(0));
@@ -692,6 +703,9 @@ public final class EdgesOfCallsTest {
         Check.throwsState("ten of nine", () -> z.folds(10, 0, 1, 60));
         Check.due("nine of nine", z.folds(9, 0, 1, 60), 1);
         Check.due("two of nine", z.folds(2, 0, 1, 60), 1);
+        GainTrees w = Check.bench(NAMES, "1,p,a;1,p,a;1,p,b;1,p,a;1,p,a;");
+        Check.due("f is 0 or 1: the one b once", w.folds(2, 0, 1, 0), 1);
+        Check.due("f is 0, 1 or 2: the one b once", w.folds(3, 0, 1, 0), 1);
         z.clear(0);
         Check.throwsState("two of none", () -> z.folds(2, 0, 1, 60));
         Check.tape(z, "1,p,a;").rows(0);
@@ -708,6 +722,10 @@ public final class EdgesOfCallsTest {
             Check.due("folds", x.folds(2, mode, 1, 60) > 0, true);
         }
         Check.due("its state", Check.state(x), before);
+        Check.due("tree()", Check.tape(x, "by x<=2 is a else by x<=3 is b else is c").tree(), 5);
+        String read = Check.state(x);
+        Check.due("folds", x.folds(2, 0, 1, 60) > 0, true);
+        Check.due("a tree that was read", Check.state(x), read);
         GainTrees y = rowsAlone();
         y.folds(2, 0, 1, 60);
         Check.due("no tree comes", y.count(4), 0);

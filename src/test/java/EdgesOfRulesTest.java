@@ -142,6 +142,14 @@ public final class EdgesOfRulesTest {
             }
         }
         Check.due("the rule for a is there", found, true);
+        // 1 of 1 (2/3); without x <= 5 3 of 3 (4/5), without z <= 5 2 of 2 (3/4): x goes, though z comes behind it
+        makes("1,p,1,a;9,p,1,a;9,p,1,a;1,p,9,a;9,p,9,b;9,p,9,b;9,p,9,b;9,p,9,b;",
+                "by x<=5 by z<=5 is a else is c else is b", 3,
+                "if z <= 5 then a; if x > 5 then b; if x <= 5 and z > 5 then c; else a;");
+        // the other way round
+        makes("1,p,1,a;1,p,9,a;1,p,9,a;9,p,1,a;9,p,9,b;9,p,9,b;9,p,9,b;9,p,9,b;",
+                "by x<=5 by z<=5 is a else is c else is b", 3,
+                "if x <= 5 then a; if x > 5 then b; if x <= 5 and z > 5 then c; else a;");
     }
 
     private static void firstConditionOfSeveral() {

@@ -17,6 +17,7 @@ public final class EdgesOfTreesTest {
         logarithms();
         gainOfNothing();
         gainsAreRealNumbers();
+        gainsThatLTurnsRound();
         squaresWithoutRows();
         notBelowTheMean();
         firstOfSeveral();
@@ -221,6 +222,52 @@ public final class EdgesOfTreesTest {
         // one row off leaves 5 log 5 less 4 log 2 (5.27), two halves leave 6 log 3 (6.59)
         Check.due("one row off gains more than two halves", y.compare(0, 0, 1000, 0, 3000), 1);
         Check.due("from the other side", y.compare(0, 0, 3000, 0, 1000), -1);
+    }
+
+    /** All rows of both classes: so many of each go to p of ATTRIBUTE u, so many to p of v; by names of u and v. */
+    private static GainTrees twoSplits(int[] n, String attributes) {
+        StringBuilder rows = new StringBuilder();
+        for (int c = 0; c < 2; c++) {
+            for (int i = 0; i < n[c]; i++) {
+                for (int k = 0; k < attributes.length(); k++) {
+                    int goes = attributes.charAt(k) == 'u' ? n[2 + c] : n[4 + c];
+                    rows.append(i < goes ? "p," : "q,");
+                }
+                rows.append(c == 0 ? "a;" : "b;");
+            }
+        }
+        StringBuilder names = new StringBuilder("classes a,b;");
+        for (int k = 0; k < attributes.length(); k++) {
+            names.append("x").append(k).append(":p,q;");
+        }
+        return Check.bench(names.toString(), rows.toString());
+    }
+
+    /**
+     * The first split gains more, by whole numbers; by L the second one does. (44 a and 56 b: 29 a and 15 b apart, or
+     * 9 a and 33 b: the sums differ by 10^-9.)
+     */
+    private static void gainsThatLTurnsRound() {
+        Check.sentence("II", "MODES: 0 the SPLIT of the greatest GAIN .. (as real numbers)");
+        int[][] cases = {{44, 56, 29, 15, 9, 33}, {88, 112, 58, 30, 18, 66}, {22, 177, 18, 175, 21, 115},
+            {31, 168, 18, 93, 9, 53}, {77, 123, 49, 89, 32, 40}, {51, 148, 2, 11, 20, 69}, {25, 35, 15, 23, 7, 8},
+            {35, 164, 15, 80, 26, 113}, {88, 111, 4, 5, 57, 72}, {55, 145, 53, 139, 6, 17}};
+        for (int[] n : cases) {
+            GainTrees x = twoSplits(n, "uv");
+            Check.due("tree()", Check.tape(x, "is a").tree(), 1);
+            Check.due("the first one gains more", x.compare(0, 0, 0, 1, 0), 1);
+            Check.due("from the other side", x.compare(0, 1, 0, 0, 0), -1);
+            Check.due("by L it is less", x.gain(0, 0, 0, 0) < x.gain(0, 1, 0, 0), true);
+            String[] orders = {"uv", "vu", "vuv", "vvu"};
+            int[] chosen = {0, 1, 1, 2};
+            for (int i = 0; i < orders.length; i++) {
+                GainTrees y = twoSplits(n, orders[i]);
+                for (int mode = 0; mode < 2; mode++) {
+                    Check.due("nodes", y.grow(mode, 1, 1), 3);
+                    Check.due("by " + orders[i] + " in mode " + mode, y.node(0, 0), chosen[i]);
+                }
+            }
+        }
     }
 
     private static void squaresWithoutRows() {
@@ -451,6 +498,12 @@ public final class EdgesOfTreesTest {
         for (int i = 0; i < 6; i++) {
             for (int what = 0; what < 6; what++) {
                 Check.due("node(" + i + ", " + what + ")", x.node(i, what), want[i][what]);
+            }
+        }
+        int[][] classes = {{1, 2, 1}, {1, 0, 0}, {0, 2, 0}, {0, 1, 0}, {0, 1, 0}, {0, 0, 1}};
+        for (int i = 0; i < 6; i++) {
+            for (int c = 0; c < 3; c++) {
+                Check.due("node(" + i + ", " + (20 + c) + ")", x.node(i, 20 + c), classes[i][c]);
             }
         }
         Check.due("child 2 of 0", x.node(0, 12), 5);

@@ -23,6 +23,7 @@ public final class TreeFaultTest {
             noRules(x);
             theTreeStays(x);
         }
+        aTreeThatWasReadStays();
         rulesCanBeMadeAgain();
         withoutRulesAhead();
         otherFaultsKeepTheRules();
@@ -62,6 +63,20 @@ public final class TreeFaultTest {
         Check.due("tried(1, 0, 0, 1)", x.tried(1, 0, 0, 1), 2);
         Check.due("write(0)", Check.written(x, 0), Weather.TREE);
         Check.due("prune()", x.prune(), 1);
+    }
+
+    private static void aTreeThatWasReadStays() {
+        GainTrees x = ruled();
+        String text = "by windy { false: is yes true: by humidity <= 80 is no else is yes }";
+        Check.due("tree()", Check.tape(x, text).tree(), 5);
+        for (String faulty : new String[] {"", "by outlook{sunny:is no overcast:is no rain:is perhaps", "is no is"}) {
+            x.rules();
+            Check.due("tree()", Check.tape(x, faulty).tree(), -1);
+            Check.due("count(5)", x.count(5), 0);
+            Check.due("node(2, 3)", x.node(2, 3), 6);
+            Check.due("write(0)", x.write(0), text.length());
+        }
+        Check.due("it stays", Check.result(x), text);
     }
 
     private static void rulesCanBeMadeAgain() {
