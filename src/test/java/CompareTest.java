@@ -114,15 +114,12 @@ public final class CompareTest {
     /** Of 200 rows all splits are put in order by doubles; neighbours are compared as the model does it. */
     private static void nearlyEqual() {
         Random random = new Random(11);
-        GainTrees x = new GainTrees();
-        Model model = new Model();
         StringBuilder names = new StringBuilder("classes a,b,c,d,e,f;");
         for (int k = 0; k < 8; k++) {
             names.append('x').append(k).append(":measured;");
         }
-        give(x, model, names.toString());
-        Check.due("names", x.names(), model.names());
         int[][] cells = new int[200][9];
+        String[] texts = {names.toString(), "", ""};
         for (int part = 0; part < 2; part++) {
             StringBuilder rows = new StringBuilder();
             for (int i = part * 100; i < part * 100 + 100; i++) {
@@ -133,11 +130,8 @@ public final class CompareTest {
                 cells[i][8] = random.nextInt(6);
                 rows.append((char) ('a' + cells[i][8])).append(';');
             }
-            give(x, model, rows.toString());
-            Check.due("rows", x.rows(0), model.rows(0));
+            texts[1 + part] = rows.toString();
         }
-        give(x, model, "is a");
-        Check.due("tree", x.tree(), model.tree());
         List<double[]> splits = new ArrayList<>();
         for (int k = 0; k < 8; k++) {
             for (int[] row : cells) {
@@ -145,12 +139,30 @@ public final class CompareTest {
             }
         }
         splits.sort((a, b) -> Double.compare(a[2], b[2]));
+        GainTrees x = new GainTrees();
+        Model model = new Model();
         for (int i = 0; i + 1 < splits.size(); i++) {
+            if (i % 100 == 0) {
+                x = new GainTrees();
+                model = new Model();
+                giveAll(x, model, texts);
+            }
             double[] a = splits.get(i);
             double[] b = splits.get(i + 1);
             Check.due("neighbours " + i, x.compare(0, (int) a[0], (int) a[1], (int) b[0], (int) b[1]),
                     model.compare(0, (int) a[0], (int) a[1], (int) b[0], (int) b[1]));
         }
+    }
+
+    private static void giveAll(GainTrees x, Model model, String[] texts) {
+        give(x, model, texts[0]);
+        Check.due("names", x.names(), model.names());
+        for (int part = 1; part < texts.length; part++) {
+            give(x, model, texts[part]);
+            Check.due("rows", x.rows(0), model.rows(0));
+        }
+        give(x, model, "is a");
+        Check.due("tree", x.tree(), model.tree());
     }
 
     private static void give(GainTrees x, Model model, String text) {

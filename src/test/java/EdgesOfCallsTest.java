@@ -81,7 +81,9 @@ public final class EdgesOfCallsTest {
         }
         Check.tape(x, "classes a,b;x:p,q;");
         Check.due("names()", x.names(), 1);
-        Check.due("count(1), the 507th call", x.count(1), 1);
+        for (int call = 506; call <= 512; call++) {
+            Check.due("call " + call, x.count(1), 1);
+        }
     }
 
     private static void newObject() {
@@ -722,10 +724,11 @@ public final class EdgesOfCallsTest {
             Check.due("folds", x.folds(2, mode, 1, 60) > 0, true);
         }
         Check.due("its state", Check.state(x), before);
-        Check.due("tree()", Check.tape(x, "by x<=2 is a else by x<=3 is b else is c").tree(), 5);
-        String read = Check.state(x);
-        Check.due("folds", x.folds(2, 0, 1, 60) > 0, true);
-        Check.due("a tree that was read", Check.state(x), read);
+        GainTrees z = whole();
+        Check.due("tree()", Check.tape(z, "by x<=2 is a else by x<=3 is b else is c").tree(), 5);
+        String read = Check.state(z);
+        Check.due("folds", z.folds(2, 0, 1, 60) > 0, true);
+        Check.due("a tree that was read", Check.state(z), read);
         GainTrees y = rowsAlone();
         y.folds(2, 0, 1, 60);
         Check.due("no tree comes", y.count(4), 0);

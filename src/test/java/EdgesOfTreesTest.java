@@ -28,6 +28,8 @@ public final class EdgesOfTreesTest {
         numbersOfNodes();
         laterRows();
         decidedAsTold();
+        deepestWays();
+        deepestPruning();
         asManyErrors();
         prunedWithoutRows();
         prunedUpwards();
@@ -414,6 +416,56 @@ public final class EdgesOfTreesTest {
         Check.due("a LEAF alone", Check.tape(y, "9,q").decide(0), 2);
         Check.due("its class", y.node(0, 2), 2);
         Check.due("its row of class a", y.node(0, 20), 1);
+    }
+
+    /** Sixty forks, one in another: by a CUT to the left, to the right, by VALUES in the first child, in the last. */
+    private static void deepestWays() {
+        Check.sentence("III", "A row comes from NODE 0 on to the CHILD that it would be in, to a LEAF (60 are above it)");
+        String[] ahead = {"by x<=0 ", "by x<=0 is a else ", "by y{p:", "by y{p:is a q:is b r:"};
+        String[] behind = {" else is b", "", " q:is b r:is a}", "}"};
+        String[] rows = {"0,r", "0.001,p", "9,p", "9,r"};
+        int[] last = {60, 120, 60, 180};
+        for (int sort = 0; sort < 4; sort++) {
+            String text = ahead[sort].repeat(60) + "is c" + behind[sort].repeat(60);
+            GainTrees x = read(rows[sort] + ",c;", text);
+            int leaf = last[sort];
+            Check.due("above it", x.node(leaf, 5), 60);
+            Check.due("its class", x.node(leaf, 2), 2);
+            Check.due("its rows", x.node(leaf, 3), 1);
+            Check.due("rows of its parent", x.node(leaf - (sort == 1 ? 2 : sort == 3 ? 3 : 1), 3), 1);
+            Check.due("decide(0)", Check.tape(x, rows[sort]).decide(0), 2);
+            Check.due("errors(0, 0)", x.errors(0, 0), 0);
+            Check.due("tried(0, 0, 2, 2)", x.tried(0, 0, 2, 2), 1);
+            Check.due("ROWS come there now", x.compare(leaf, 0, 0, 1, 0), 0);
+            Check.due("sixty CONDITIONS go", x.rules(), 1);
+            Check.due("rule(0, 1)", x.rule(0, 1), 0);
+            int nodes = x.count(4);
+            int bytes = x.write(0);
+            Check.due("again()", x.again(), bytes);
+            Check.due("tree() of what was written", x.tree(), nodes);
+            Check.due("its rows", x.node(leaf, 3), 1);
+            Check.due("prune()", x.prune(), 60);
+        }
+    }
+
+    /** x <= 0, x <= 1 and so on to x <= 59; two rows are just ahead of the last fork's cut, one is above it. */
+    private static void deepestPruning() {
+        Check.sentence("III", "than by what is below it by then (60 are above the LEAVES)");
+        StringBuilder text = new StringBuilder();
+        for (int i = 0; i < 60; i++) {
+            text.append("by x<=").append(i).append(" is a else ");
+        }
+        String[] held = {"99,p,b;", "99,p,c;", "59,p,a;"};
+        int[] goes = {60, 0, 60};
+        for (int i = 0; i < 3; i++) {
+            GainTrees x = held("59,p,a;59,p,a;99,p,c;", text + "is c", held[i]);
+            Check.due("rows of the last fork", x.node(118, 3), 3);
+            Check.due("rows of the last leaf", x.node(120, 3), 1);
+            Check.due("rules()", x.rules(), 2);
+            Check.due("the last way's rule", Check.written(x, 1), "if x <= 59 then a; if x > 59 then c; else a;");
+            Check.due("prune() by " + held[i], x.prune(), goes[i]);
+            Check.due("count(4)", x.count(4), goes[i] == 0 ? 121 : 1);
+        }
     }
 
     // ---- III. pruned trees

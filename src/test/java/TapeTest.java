@@ -141,15 +141,17 @@ public final class TapeTest {
         }
         Check.due("grow", x.grow(0, 1, 60), 201);
         Check.due("bytes of the tree", x.write(0), 17 + 8 * (32 + 8 * (32 + 2 * 30 + 2) + 2) + 2);
-        keeps(x, "by attributes00 { valuenumber0: by attributes01 { valuenumber0: by attributes02 { valuenumber0:");
+        keeps(x, "by attributes00 { valuenumber0: by");
         Check.due("rules", x.rules(), 128);
         Check.due("bytes of the rules", x.write(1), 128 * (2 + 28 + 2 * 32 + 5 + 13 + 1) + 127 + 19);
-        keeps(x, "if attributes00 = valuenumber0 and attributes01 = valuenumber0 and");
+        keeps(x, "if attributes00 = valuenumber0 and");
     }
 
     private static void keeps(GainTrees x, String start) {
         Check.due("count(8)", x.count(8), 6000);
-        Check.due("its start", Check.result(x).startsWith(start), true);
+        for (int i = 0; i < start.length(); i++) {
+            Check.due("letter(" + i + ")", x.letter(i), (int) start.charAt(i));
+        }
         Check.due("letter(5999)", x.letter(5999) != -1, true);
         Check.due("letter(6000)", x.letter(6000), -1);
         Check.due("again()", x.again(), 4000);
