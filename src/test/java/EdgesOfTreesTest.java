@@ -298,6 +298,14 @@ public final class EdgesOfTreesTest {
         grows("classes a,b;y:p,q;x:s0,s1,s2,s3,s4,s5,s6,s7;z:p,q;w:p,q;v:p,q;",
                 "p,s0,p,p,p,a;p,s1,q,q,q,a;q,s2,p,p,p,a;q,s3,q,q,q,a;q,s4,p,p,p,b;q,s5,q,q,q,b;q,s6,p,p,p,b;q,s7,q,q,q,b;",
                 1, 1, 1, "by y { p: is a q: is b }");
+        Check.sentence("II", "of each ATTRIBUTE by which there is a SPLIT that may be (others count for no mean)");
+        String byX = "by x { s0: is a s1: is a s2: is a s3: is a s4: is b s5: is b s6: is b s7: is b }";
+        grows("classes a,b;y:p,q;x:s0,s1,s2,s3,s4,s5,s6,s7;z:p,q;w:measured;v:p,q;",
+                "p,s0,p,1,p,a;p,s1,p,1,p,a;q,s2,p,1,p,a;q,s3,p,1,p,a;q,s4,p,1,p,b;q,s5,p,1,p,b;q,s6,p,1,p,b;q,s7,p,1,p,b;",
+                1, 1, 1, byX);
+        // with two of LEAST rows in two children that by x may not be, so y is the mean itself
+        grows("classes a,b;y:p,q;x:s0,s1,s2,s3,s4,s5,s6,s7;",
+                "p,s0,a;p,s1,a;q,s2,a;q,s3,a;q,s4,b;q,s5,b;q,s6,b;q,s7,b;", 1, 2, 1, "by y { p: is a q: is b }");
     }
 
     private static void firstOfSeveral() {
